@@ -39,8 +39,8 @@ public final class MoonPromises {
 
     private final Reader reader = new Reader();
     private final Course course = new Course();
+    /** null: it has nothing. */
     private final Told[] images = new Told[IMAGES];
-    private final boolean[] imaged = new boolean[IMAGES];
     private final Ledger ledger = new Ledger();
     private final Planner planner = new Planner();
     private final Scales scales = new Scales();
@@ -49,9 +49,6 @@ public final class MoonPromises {
     private final Slots slots = new Slots();
 
     public MoonPromises() {
-        for (int k = 0; k < IMAGES; k++) {
-            images[k] = new Told();
-        }
     }
 
     public int feed(int a, int b, int c, int d, int e) {
@@ -601,8 +598,10 @@ public final class MoonPromises {
         if (k < 0 || k >= IMAGES) {
             return NO_SUCH;
         }
+        if (images[k] == null) {
+            images[k] = new Told();
+        }
         images[k].copyFrom(course.told);
-        imaged[k] = true;
         return 0;
     }
 
@@ -610,7 +609,7 @@ public final class MoonPromises {
         if (k < 0 || k >= IMAGES) {
             return NO_SUCH;
         }
-        if (!imaged[k]) {
+        if (images[k] == null) {
             return NOTHING;
         }
         course.told.copyFrom(images[k]);
@@ -952,7 +951,7 @@ public final class MoonPromises {
                 return takePerson();
             }
             if (isWord("promise")) {
-                return takePromise();
+                return takePromise() && takePromiseMarks(draft.promises - 1);
             }
             return takeShut();
         }
@@ -1042,7 +1041,7 @@ public final class MoonPromises {
                 return false;
             }
             draft.addPromise(from, to, worth, taken);
-            return takePromiseMarks(draft.promises - 1);
+            return true;
         }
 
         private boolean takePromiseMarks(int promise) {
@@ -1411,12 +1410,11 @@ public final class MoonPromises {
                     fresh |= 1 << p;
                 }
             }
-            int dies = told.death[person];
             for (int k = 0; k < length; k++) {
-                // Who is dead for a moon has one halving by that, and one by not saying it.
-                boolean late = dies != NONE && course.moon + 1 + k > dies;
                 for (int a = 0; a < isles; a++) {
-                    int carried = late ? 0 : k == 0 ? fresh : spoken[(k - 1) * MOST_ISLES + a];
+                    // Who said it in the moon before is dead from this moon on at the earliest,
+                    // which is no halving yet.
+                    int carried = k == 0 ? fresh : spoken[(k - 1) * MOST_ISLES + a];
                     for (int b = 0; b < isles; b++) {
                         missed[leg(k, a, b)] = asked & ~(carried | spoken[k * MOST_ISLES + b]);
                     }

@@ -176,9 +176,14 @@ public final class ChangesTest {
         Check.due("wins(1), not cut", x.wins(1), -2);
         Check.slot(x, 1, 1, 256 + 3);
         Check.due("wins(1), not cut to one byte", x.wins(1), -2);
+        Check.slot(x, 1, 0, 1);
+        Check.due("row(0, 3, 60) ahead of it", x.row(0, 3, 60), 0);
+        Check.due("wins(1): the other stays", x.wins(1), 1);
+        Check.due("row(3, 3, 60), the last", x.row(3, 3, 60), 0);
+        Check.due("write(3, 59, 1), the last", x.write(3, 59, 1), 0);
         Check.due("row(1, 1, 1) in place of it", x.row(1, 1, 1), 0);
         Check.due("wins(1) of 0", x.wins(1), 0);
-        Check.due("count(9)", x.count(9), 2);
+        Check.due("count(9)", x.count(9), 3);
     }
 
     private static void pasting() {

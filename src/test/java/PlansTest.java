@@ -117,6 +117,13 @@ public final class PlansTest {
         Check.due("plans(0, 12) of all", x.plans(0, 12), 2176782336L);
         Check.due("keeps(0, 12) of all", x.keeps(0, 12), 0);
         Check.due("plan(0, 12, 11) of all", x.plan(0, 12, 11), 3);
+        Check.tell(x, text + "person on 5;promise 0 to 1 worth 9 said 86;promise 0 to 1 worth 9 said 80;");
+        Check.due("keeps(0, 12) of all", x.keeps(0, 12), 1);
+        Check.due("plan(0, 12, 11) of all", x.plan(0, 12, 11), 5);
+        Check.due("lets(0, 12) of all", x.lets(0, 12), 0);
+        Check.due("fallen(0, 12) of all", x.fallen(0, 12), 0);
+        loveIs(x, 1, 9, 12, 1, 99);
+        loveIs(x, 1, 5, 12, 1, 98);
         x.passes();
         Check.due("plans(0, 12) beyond 99", x.plans(0, 12), -2);
         Check.due("plans(0, 11) to 99", x.plans(0, 11), 362797056L);

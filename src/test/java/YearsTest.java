@@ -24,6 +24,11 @@ public final class YearsTest {
         MoonPromises at65 = Check.told(two + 65 + rest);
         Check.due("drawn(7, 1, 0): 64 is below 65", at65.drawn(7, 1, 0), 100);
         Check.due("often(7, 1, 0): 64 is below 65", at65.often(7, 1, 0), 1);
+        // From seed 0 the first is 12345, cut to 0.
+        MoonPromises at1 = Check.told(two + 1 + rest);
+        Check.due("drawn(0, 1, 0): 0 is below 1", at1.drawn(0, 1, 0), 100);
+        Check.due("often(0, 1, 0): 0 is below 1", at1.often(0, 1, 0), 1);
+        Check.due("lucky(0, 1, 1, 0): 0 is below 1", at1.lucky(0, 1, 1, 0), 1);
         Check.due("lucky(7, 1, 1, 0)", at65.lucky(7, 1, 1, 0), 1);
         Check.due("lucky(7, 1, 1, 0), unsaid", at64.lucky(7, 1, 1, 0), 0);
     }
