@@ -1508,7 +1508,7 @@ public final class MoonPromises {
 
         private boolean canKeep(int set) {
             int here = 1 << start;
-            for (int k = 0; k < length; k++) {
+            for (int k = 0; k < length && here != 0; k++) {
                 int next = 0;
                 for (int a = 0; a < isles; a++) {
                     if ((here >> a & 1) != 0) {

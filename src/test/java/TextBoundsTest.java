@@ -19,6 +19,7 @@ public final class TextBoundsTest {
         numbersOfPeopleAndPromises();
         marks();
         everyByte();
+        everyWord();
         firstFaults();
         theEnd();
         aNewObject();
@@ -224,6 +225,33 @@ public final class TextBoundsTest {
         sound("isles1at5;person on0dies5tends6;shut0 5;", 3);
         faulty("isles 1at 5;personon 0;", 1, 12);
         faulty("isles 6 at 5;shut 05;", 1, 20);
+    }
+
+    /** No word stands for another one: with a letter changed, left out or put in it can't stand there. */
+    private static void everyWord() {
+        String[] tokens = ("isles 2 at 5 ; sea 0 1 oars 3 ; person on 0 dies 9 tends 8 ; person on 1 ; shut 1 7 ; "
+            + "promise 0 to 1 worth 6 said 5 ; promise 1 to 0 worth 6 said 4 on 0 drunk ;").split(" ");
+        sound(String.join(" ", tokens), 7);
+        for (int i = 0; i < tokens.length; i++) {
+            String word = tokens[i];
+            int place = String.join(" ", java.util.Arrays.copyOf(tokens, i)).length() + (i > 0 ? 1 : 0);
+            for (int k = 0; k < word.length() && Character.isLetter(word.charAt(0)); k++) {
+                String ahead = word.substring(0, k);
+                String behind = word.substring(k + 1);
+                char other = word.charAt(k) == 'z' ? 'a' : (char) (word.charAt(k) + 1);
+                changed(tokens, i, ahead + other + behind, place);
+                changed(tokens, i, ahead + "x" + word.substring(k), place);
+                changed(tokens, i, word + word.charAt(k), place);
+                changed(tokens, i, word.toUpperCase(java.util.Locale.ROOT), place);
+                changed(tokens, i, ahead + behind, place);
+            }
+        }
+    }
+
+    private static void changed(String[] tokens, int i, String word, int place) {
+        String[] others = tokens.clone();
+        others[i] = word;
+        faulty(String.join(" ", others), 1, place);
     }
 
     private static void firstFaults() {

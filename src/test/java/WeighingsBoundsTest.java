@@ -226,6 +226,14 @@ public final class WeighingsBoundsTest {
         ways(x, 0, 0, 0, 0, -1);
         Check.slot(x, 0, 3, 22, 8, 22, 4);
         ways(x, 0, 0, 0, 0, -1);
+        Check.slot(x, 0, 3, 20, 2, 20, 1);
+        Check.edges("span of a clash in its own", w -> x.span(0, 0, w), 0, -1, 1, -1);
+        Check.slot(x, 0, 3, 20, 1, 20, 2);
+        Check.edges("span of a clash in its own", w -> x.span(0, 0, w), 0, -1, 1, -1);
+        Check.slot(x, 0, 3, 30, 1, 30, 2);
+        Check.due("said of a clash ten behind", x.said(0, 0), 0);
+        Check.slot(x, 0, 3, 30, 2);
+        Check.due("said of ten behind", x.said(0, 0), 1 << 28);
         Check.slot(x, 0, 3, 22, 4, 23, 2, 22, 8);
         ways(x, 0, 0, 0, 0, -1);
         Check.due("weigh of no way", x.weigh(0, 0), -1);
