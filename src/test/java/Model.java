@@ -57,6 +57,31 @@ final class Model {
         replay();
     }
 
+    /** As another one is, by its isles and acts. */
+    void copyFrom(Model other) {
+        isles = other.isles;
+        told = other.told;
+        people = other.people;
+        promises = other.promises;
+        for (int a = 0; a < 6; a++) {
+            System.arraycopy(other.seas[a], 0, seas[a], 0, 6);
+            System.arraycopy(other.shut[a], 0, shut[a], 0, 100);
+            home[a] = other.home[a];
+            dies[a] = other.dies[a];
+            tends[a] = other.tends[a];
+        }
+        for (int p = 0; p < 10; p++) {
+            ower[p] = other.ower[p];
+            owee[p] = other.owee[p];
+            full[p] = other.full[p];
+            first[p] = other.first[p];
+            drunk[p] = other.drunk[p];
+            on[p] = other.on[p];
+        }
+        acts = new ArrayList<>(other.acts);
+        replay();
+    }
+
     String text() {
         StringBuilder all = new StringBuilder("isles " + isles + " at " + told + ";\n");
         for (int a = 0; a < isles; a++) {

@@ -69,7 +69,7 @@ public final class SearchTest {
         }
     }
 
-    private static void standing(Model m, MoonPromises x, String at) {
+    static void standing(Model m, MoonPromises x, String at) {
         Check.due(at + "now", x.now(), m.now);
         Check.due(at + "count(5)", x.count(5), m.acts.size());
         int can = 0;
@@ -91,7 +91,7 @@ public final class SearchTest {
         }
     }
 
-    private static void debts(Random random, Model m, MoonPromises x, int world) {
+    static void debts(Random random, Model m, MoonPromises x, int world) {
         String at = "world " + world + ": ";
         int moon = random.nextBoolean() ? random.nextInt(100) : Math.max(0, m.now - 3 + random.nextInt(4));
         int greatest = -1;
@@ -155,7 +155,7 @@ public final class SearchTest {
         Check.due(at + "joined", x.joined(), best);
     }
 
-    private static void plans(Random random, Model m, MoonPromises x, int world) {
+    static void plans(Random random, Model m, MoonPromises x, int world) {
         String at = "world " + world + ": ";
         if (m.people == 0) {
             return;
@@ -195,7 +195,7 @@ public final class SearchTest {
         }
     }
 
-    private static void loves(Random random, Model m, MoonPromises x, int world) {
+    static void loves(Random random, Model m, MoonPromises x, int world) {
         String at = "world " + world + ": ";
         if (m.promises == 0) {
             return;
@@ -233,7 +233,7 @@ public final class SearchTest {
         Check.due(at + "when", x.when(p, v, n), when);
     }
 
-    private static void years(Random random, Model m, MoonPromises x, int world) {
+    static void years(Random random, Model m, MoonPromises x, int world) {
         String at = "world " + world + ": ";
         if (m.promises == 0) {
             return;
@@ -283,7 +283,7 @@ public final class SearchTest {
         return Model.halved(m.full[p], behind - last + (last == 0 && m.drunk[p] ? 1 : 0));
     }
 
-    private static void weighings(Random random, Model m, MoonPromises x, int world) {
+    static void weighings(Random random, Model m, MoonPromises x, int world) {
         String at = "world " + world + ": ";
         if (m.promises == 0) {
             return;
